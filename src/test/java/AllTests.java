@@ -13,6 +13,14 @@ public final class AllTests {
         LookTests.all(checks);
         WouldBeTests.all(checks);
         HistoryTests.all(checks);
+        CityEdgeTests.all(checks);
+        LineEdgeTests.all(checks);
+        TextEdgeTests.all(checks);
+        LookEdgeTests.all(checks);
+        WayEdgeTests.all(checks);
+        WouldBeEdgeTests.all(checks);
+        HistoryEdgeTests.all(checks);
+        NothingChangedTests.all(checks);
         ModelTests.all(checks);
         if (!checks.close()) {
             System.exit(1);

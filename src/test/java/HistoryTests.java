@@ -39,56 +39,13 @@ final class HistoryTests {
         c.due("day", x.count(0), 3);
     }
 
-    // These are some 320 calls: one portrait an object is all that the document promises answers for.
-    private static int[] portrait(RoofOrdinances x) {
-        int[] rows = new int[28 * 5 + 16 * 8 + 4 * 9 + 16];
-        int at = 0;
-        for (int gangway = 0; gangway < 28; gangway++) {
-            for (int what : new int[] {0, 3, 4, 5, 6}) {
-                rows[at++] = x.gangway(gangway, what);
-            }
-        }
-        for (int roof = 0; roof < 16; roof++) {
-            for (int what = 0; what < 8; what++) {
-                rows[at++] = x.roof(roof, what);
-            }
-        }
-        for (int owner = 0; owner < 4; owner++) {
-            for (int what = 0; what < 9; what++) {
-                rows[at++] = x.ownerOf(owner, what);
-            }
-        }
-        for (int what = 0; what < 16; what++) {
-            rows[at++] = x.count(what);
-        }
-        return rows;
-    }
-
-    private static void duePortrait(Checks c, String call, int[] got, int[] want) {
-        for (int index = 0; index < want.length; index++) {
-            c.due(call + ", row " + index + " of the portrait", got[index], want[index]);
-        }
-    }
-
-    private static RoofOrdinances livelyCity() {
-        RoofOrdinances x = new RoofOrdinances();
-        Texts.run(x, "h0:0,h1:5,h2:26,c4,d,w0:0,w3:14,t2:26,h2:27");
-        x.coop(1);
-        x.owner(1, 4, 65535 - 4, true);
-        x.reach(3);
-        x.bears(1, 7);
-        x.bears(27, 0);
-        x.hang(0, 5);
-        return x;
-    }
-
     private static void dueUndone(Checks c, String call, Consumer<RoofOrdinances> change) {
-        int[] before = portrait(livelyCity());
-        RoofOrdinances x = livelyCity();
+        int[] before = Portraits.of(Portraits.lively());
+        RoofOrdinances x = Portraits.lively();
         change.accept(x);
         c.due("states after " + call, x.count(17), 4);
         c.due("undo() after " + call, x.undo(), 3);
-        duePortrait(c, call, portrait(x), before);
+        Portraits.due(c, call, Portraits.of(x), before);
     }
 
     private static void everyChange(Checks c) {
@@ -106,14 +63,14 @@ final class HistoryTests {
         dueUndone(c, "a refused walk", x -> x.walk(1, 17));
         dueUndone(c, "day", RoofOrdinances::day);
         dueUndone(c, "run", x -> Texts.run(x, "c0,d,h3:25,t0:0,w3:14,w3:0"));
-        RoofOrdinances x = livelyCity();
+        RoofOrdinances x = Portraits.lively();
         x.save();
         Texts.run(x, "c0,d,h3:25,t0:0,w3:14,w3:0");
-        RoofOrdinances y = livelyCity();
+        RoofOrdinances y = Portraits.lively();
         Texts.run(y, "c0,d,h3:25,t0:0,w3:14,w3:0");
         x.restore();
         c.due("undo() after restore", x.undo(), 3);
-        duePortrait(c, "restore", portrait(x), portrait(y));
+        Portraits.due(c, "restore", Portraits.of(x), Portraits.of(y));
     }
 
     private static void noChanges(Checks c) {
@@ -178,11 +135,11 @@ final class HistoryTests {
     }
 
     private static void restore(Checks c) {
-        RoofOrdinances x = livelyCity();
+        RoofOrdinances x = Portraits.lively();
         c.due("restore()", x.restore(), NOT_POSSIBLE);
         c.due("no change", x.count(17), 4);
         x.save();
-        int[] before = portrait(livelyCity());
+        int[] before = Portraits.of(Portraits.lively());
         x.bears(0, 0);
         x.hang(3, 25);
         x.walk(3, 14);
@@ -196,7 +153,7 @@ final class HistoryTests {
         c.due("day", x.count(0), 1);
         x.reach(0);
         c.due("restore() once more", x.restore(), 2);
-        duePortrait(c, "restore", portrait(x), before);
+        Portraits.due(c, "restore", Portraits.of(x), before);
         // The history is no part of the snapshot.
         RoofOrdinances y = new RoofOrdinances();
         y.save();
