@@ -7,6 +7,8 @@ public final class AllTests {
         Checks checks = new Checks();
         FaceTests.all(checks);
         LanguageTests.all(checks);
+        LanguageTreeTests.all(checks);
+        ReadmeTests.all(checks);
         CityTests.all(checks);
         LineTests.all(checks);
         TextTests.all(checks);
